@@ -70,7 +70,8 @@ public final class NightfallVillage {
 
     // ---- roles and seats ----
 
-    public int role(char side, char act, int weight, boolean isOnce, boolean isFool, boolean isHunter) {
+    public int role(char side, char act, int weight, boolean isOnce, boolean isFool, boolean isHunter)
+        throws IllegalArgumentException, UnsupportedOperationException, IllegalStateException {
         if (!isSide(side) || !isAct(act) || weight < 1 || weight > MOST_WEIGHT) {
             throw new IllegalArgumentException("no such side, act or weight");
         }
@@ -81,14 +82,14 @@ public final class NightfallVillage {
         return roles.add(side, act, weight, isOnce, isFool, isHunter);
     }
 
-    public int seems(int role, int other) {
+    public int seems(int role, int other) throws IndexOutOfBoundsException, UnsupportedOperationException {
         requireRole(role);
         requireRole(other);
         requireNotBegun();
         return roles.disguise(role, other);
     }
 
-    public int seat(int role) {
+    public int seat(int role) throws IndexOutOfBoundsException, UnsupportedOperationException, IllegalStateException {
         requireRole(role);
         requireNotBegun();
         if (deal.seats >= MOST_SEATS) {
@@ -99,13 +100,15 @@ public final class NightfallVillage {
         return seat;
     }
 
-    public boolean lovers(int seat, int other) {
+    public boolean lovers(int seat, int other)
+        throws IndexOutOfBoundsException, IllegalArgumentException, UnsupportedOperationException {
         requireTwoSeats(seat, other);
         requireNotBegun();
         return deal.pair(seat, other);
     }
 
-    public int mark(int seat, int other) {
+    public int mark(int seat, int other)
+        throws IndexOutOfBoundsException, IllegalArgumentException, UnsupportedOperationException {
         requireTwoSeats(seat, other);
         if (history.isFull() || !game.mayMark(seat)) {
             throw new UnsupportedOperationException("the seat is dead, or the game is over");
@@ -118,13 +121,14 @@ public final class NightfallVillage {
         return game.folk.putMark(seat, other);
     }
 
-    public int heir(int seat, int other) {
+    public int heir(int seat, int other)
+        throws IndexOutOfBoundsException, IllegalArgumentException, UnsupportedOperationException {
         requireTwoSeats(seat, other);
         requireNotBegun();
         return deal.bequeath(seat, other);
     }
 
-    public int begin() {
+    public int begin() throws UnsupportedOperationException, IllegalStateException {
         requireNotBegun();
         if (deal.seats < LEAST_SEATS) {
             throw new IllegalStateException("there are fewer than 3 seats");
@@ -136,7 +140,8 @@ public final class NightfallVillage {
 
     // ---- nights and days ----
 
-    public boolean act(int seat, int target) {
+    public boolean act(int seat, int target)
+        throws IndexOutOfBoundsException, IllegalStateException, UnsupportedOperationException {
         requireSeat(seat);
         requireSeat(target);
         requireRunning();
@@ -147,7 +152,7 @@ public final class NightfallVillage {
         return game.night.aim(seat, target);
     }
 
-    public int dawn() {
+    public int dawn() throws IllegalStateException, UnsupportedOperationException {
         requireRunning();
         if (history.isFull() || !game.isNight) {
             throw new UnsupportedOperationException("it is no night");
@@ -159,7 +164,7 @@ public final class NightfallVillage {
         return deaths;
     }
 
-    public boolean didAct(int seat) {
+    public boolean didAct(int seat) throws IndexOutOfBoundsException, NoSuchElementException {
         requireSeat(seat);
         if (sights.nights == 0) {
             throw new NoSuchElementException("no night is over");
@@ -167,19 +172,20 @@ public final class NightfallVillage {
         return game.night.wasDone(seat);
     }
 
-    public char told(int seat, int night) {
+    public char told(int seat, int night) throws IndexOutOfBoundsException, NoSuchElementException {
         requireSeat(seat);
         requireNightOver(night);
         return sights.tellingTo(seat, night);
     }
 
-    public int seen(int seat, int night) {
+    public int seen(int seat, int night) throws IndexOutOfBoundsException, NoSuchElementException {
         requireSeat(seat);
         requireNightOver(night);
         return sights.seatShownTo(seat, night);
     }
 
-    public boolean vote(int seat, int target) {
+    public boolean vote(int seat, int target)
+        throws IndexOutOfBoundsException, IllegalStateException, UnsupportedOperationException {
         requireSeat(seat);
         requireSeat(target);
         requireRunning();
@@ -190,14 +196,15 @@ public final class NightfallVillage {
         return game.castVote(seat, target);
     }
 
-    public int votes(int target) {
+    public int votes(int target)
+        throws IndexOutOfBoundsException, IllegalStateException, UnsupportedOperationException {
         requireSeat(target);
         requireRunning();
         requireDay();
         return game.day.sumFor(target, game.folk);
     }
 
-    public int dusk() {
+    public int dusk() throws IllegalStateException, UnsupportedOperationException {
         requireRunning();
         requireDay();
         if (history.isFull()) {
@@ -207,53 +214,54 @@ public final class NightfallVillage {
         return game.endDay();
     }
 
-    public boolean isNight() {
+    public boolean isNight() throws IllegalStateException {
         requireRunning();
         return game.isNight;
     }
 
-    public int number() {
+    public int number() throws IllegalStateException {
         requireBegun();
         return game.number;
     }
 
     // ---- the living and the dead ----
 
-    public boolean isAlive(int seat) {
+    public boolean isAlive(int seat) throws IndexOutOfBoundsException {
         requireSeat(seat);
         return game.folk.lives(seat);
     }
 
-    public int living(char side) {
+    public int living(char side) throws IllegalArgumentException {
         if (!isSide(side) && side != ALL_SIDES) {
             throw new IllegalArgumentException("no such side");
         }
         return game.folk.countLiving(side);
     }
 
-    public char death(int seat) {
+    public char death(int seat) throws IndexOutOfBoundsException {
         requireSeat(seat);
         return game.folk.causeOf(seat);
     }
 
-    public int roleOf(int seat) {
+    public int roleOf(int seat) throws IndexOutOfBoundsException {
         requireSeat(seat);
         return game.folk.heldBy(seat);
     }
 
-    public int dealt(int role) {
+    public int dealt(int role) throws IndexOutOfBoundsException {
         requireRole(role);
         return deal.countOf(role);
     }
 
-    public boolean isSilenced(int seat) {
+    public boolean isSilenced(int seat)
+        throws IndexOutOfBoundsException, IllegalStateException, UnsupportedOperationException {
         requireSeat(seat);
         requireRunning();
         requireDay();
         return game.night.hasSilenced(seat);
     }
 
-    public boolean hasGhostVote(int seat) {
+    public boolean hasGhostVote(int seat) throws IndexOutOfBoundsException, UnsupportedOperationException {
         requireSeat(seat);
         if (game.folk.lives(seat)) {
             throw new UnsupportedOperationException("the seat lives");
@@ -265,7 +273,7 @@ public final class NightfallVillage {
         return game.outcome;
     }
 
-    public int score(int seat) {
+    public int score(int seat) throws IndexOutOfBoundsException, IllegalStateException {
         requireSeat(seat);
         if (game.outcome == NONE) {
             throw new IllegalStateException("the game is not over");
@@ -277,13 +285,13 @@ public final class NightfallVillage {
 
     // ---- what can be known ----
 
-    public int worlds(int seat) {
+    public int worlds(int seat) throws IndexOutOfBoundsException, IllegalStateException {
         requireSeat(seat);
         requireBegun();
         return fitting.countFor(seat);
     }
 
-    public int possible(int seat, int other, int role) {
+    public int possible(int seat, int other, int role) throws IndexOutOfBoundsException, IllegalStateException {
         requireSeat(seat);
         requireSeat(other);
         requireRole(role);
@@ -292,7 +300,7 @@ public final class NightfallVillage {
         return fitting.countWithRole(other, role);
     }
 
-    public char sure(int seat, int other) {
+    public char sure(int seat, int other) throws IndexOutOfBoundsException, IllegalStateException {
         requireSeat(seat);
         requireSeat(other);
         requireBegun();
@@ -300,12 +308,14 @@ public final class NightfallVillage {
         return fitting.sureSide(other);
     }
 
-    public int known() {
+    public int known() throws IllegalStateException {
         requireBegun();
         return fitting.countFor(NOBODY);
     }
 
-    public int claim(int seat, int other, char side) {
+    public int claim(int seat, int other, char side)
+        throws IndexOutOfBoundsException, IllegalArgumentException, IllegalStateException,
+        UnsupportedOperationException {
         requireTwoSeats(seat, other);
         if (!isSide(side)) {
             throw new IllegalArgumentException("no such side");
@@ -317,7 +327,7 @@ public final class NightfallVillage {
         return claims.add(seat, other, side);
     }
 
-    public char holds(int seat, int claim) {
+    public char holds(int seat, int claim) throws IndexOutOfBoundsException {
         requireSeat(seat);
         if (claim < 0 || claim >= claims.count) {
             throw new IndexOutOfBoundsException("no such claim");
@@ -326,7 +336,7 @@ public final class NightfallVillage {
         return claims.judge(claim, fitting);
     }
 
-    public int liars(int seat) {
+    public int liars(int seat) throws IndexOutOfBoundsException {
         requireSeat(seat);
         if (claims.count == 0) {
             return 0;
@@ -337,14 +347,16 @@ public final class NightfallVillage {
 
     // ---- histories ----
 
-    public char changed(int seat, int other) {
+    public char changed(int seat, int other)
+        throws IndexOutOfBoundsException, IllegalArgumentException, IllegalStateException {
         requireTwoSeats(seat, other);
         requireBegun();
         otherGame.goThrough(history, seat, other);
         return otherGame.outcome;
     }
 
-    public int alive(int seat, int other) {
+    public int alive(int seat, int other)
+        throws IndexOutOfBoundsException, IllegalArgumentException, IllegalStateException {
         requireTwoSeats(seat, other);
         requireBegun();
         otherGame.goThrough(history, seat, other);
@@ -361,14 +373,14 @@ public final class NightfallVillage {
         return sum;
     }
 
-    public float livingShare() {
+    public float livingShare() throws NoSuchElementException {
         if (deal.seats == 0) {
             throw new NoSuchElementException("there are no seats");
         }
         return (float) game.folk.countLiving(ALL_SIDES) / (float) deal.seats;
     }
 
-    public double meanWorlds() {
+    public double meanWorlds() throws IllegalStateException {
         if (!game.hasBegun || deal.seats == 0) {
             throw new IllegalStateException("the game has not begun");
         }
@@ -1242,32 +1254,34 @@ public final class NightfallVillage {
 
         int countFor(int seat) {
             knower = seat;
-            total = 0;
             Arrays.fill(tallies, 0);
             for (int role = 0; role < MOST_ROLES; role++) {
                 left[role] = deal.countOf(role);
             }
-            place(0);
+            total = countFrom(0);
             return total;
         }
 
-        private void place(int seat) {
+        private int countFrom(int seat) {
             if (seat >= deal.seats || seat >= MOST_SEATS) {
-                tallyIfFitting();
-                return;
+                return fitsSights() ? 1 : 0;
             }
+            int count = 0;
             for (int role = 0; role < MOST_ROLES; role++) {
-                placeRole(seat, role);
+                if (left[role] > 0 && mayHold(seat, role)) {
+                    count += countWith(seat, role);
+                }
             }
+            return count;
         }
 
-        private void placeRole(int seat, int role) {
-            if (left[role] > 0 && mayHold(seat, role)) {
-                left[role]--;
-                world[seat] = role;
-                place(seat + 1);
-                left[role]++;
-            }
+        private int countWith(int seat, int role) {
+            left[role]--;
+            world[seat] = role;
+            int count = countFrom(seat + 1);
+            tallies[seat * MOST_ROLES + role] += count;
+            left[role]++;
+            return count;
         }
 
         private boolean mayHold(int seat, int role) {
@@ -1277,41 +1291,30 @@ public final class NightfallVillage {
             return seat != knower || roles.lookOf(role) == roles.lookOf(deal.dealtTo(seat));
         }
 
-        private void tallyIfFitting() {
-            if (!fitsSights()) {
-                return;
-            }
-            total++;
-            for (int seat = 0; seat < deal.seats; seat++) {
-                tallies[seat * MOST_ROLES + world[seat]]++;
-            }
-        }
-
         private boolean fitsSights() {
             if (!deal.has(knower)) {
                 return true;
             }
             boolean isFool = roles.isFool(world[knower]);
-            int drinkers = drinkersBeside(knower);
             for (int other = 0; other < deal.seats; other++) {
                 boolean isWolf = roles.sideOf(world[other]) == WOLF;
                 char wrong = isWolf != isFool ? VILLAGE : WOLF;
                 int living = sights.livingAsLastTold(knower, other, wrong);
-                if (living != 0 && (living & drinkers) == 0) {
+                if (living != 0 && !hasDrinkerBesideKnower(living)) {
                     return false;
                 }
             }
             return true;
         }
 
-        private int drinkersBeside(int seat) {
-            int drinkers = 0;
-            for (int other = 0; other < deal.seats; other++) {
-                if (other != seat && roles.actOf(world[other]) == DRINK) {
-                    drinkers |= 1 << other;
+        private boolean hasDrinkerBesideKnower(int living) {
+            for (int seat = 0; seat < deal.seats; seat++) {
+                boolean isLiving = (living >> seat & 1) == 1;
+                if (isLiving && seat != knower && roles.actOf(world[seat]) == DRINK) {
+                    return true;
                 }
             }
-            return drinkers;
+            return false;
         }
 
         boolean fitsAsItIs() {

@@ -144,18 +144,6 @@ public final class KnowledgeTest {
         CHECKS.is("the one seen may have served", seen.worlds(1), 24);
     }
 
-    /** Seat 1 takes itself for a seer, and may be the fool, the drinker or the plain one instead. */
-    private static NightfallVillage masks(String acts, String... targets) {
-        NightfallVillage village = new NightfallVillage();
-        for (int i = 0; i < acts.length(); i++) {
-            char act = acts.charAt(i);
-            char side = Character.isUpperCase(act) ? 'w' : 'v';
-            village.role(side, Character.toLowerCase(act), 1, false, act == 'f', false);
-            village.seat(i);
-        }
-        return village;
-    }
-
     private static void worldsOfFools() {
         NightfallVillage village = new NightfallVillage();
         village.role('w', 'k', 1, false, false, false);
@@ -178,9 +166,9 @@ public final class KnowledgeTest {
         masksOfOthers();
     }
 
-    /** One who takes itself for a seer may have a role without that act; a drinker who sees is no drinker for itself. */
+    /** One who takes itself for a seer may have a role without that act; a drinker serves no drink to itself. */
     private static void masksOfOthers() {
-        NightfallVillage village = masks("Ksd-");
+        NightfallVillage village = Villages.ofActs("Ksd-");
         village.seems(3, 1);
         village.seems(2, 1);
         village.begin();

@@ -55,7 +55,8 @@ public final class RolesAndSeatsTest {
         String acts = "-brdpsqk";
         String sides = "vwlvwlvw";
         for (int i = 0; i < 8; i++) {
-            CHECKS.is("role " + i, village.role(sides.charAt(i), acts.charAt(i), 1 + i % 2, i % 2 == 0, i > 4, i < 4), i);
+            int role = village.role(sides.charAt(i), acts.charAt(i), 1 + i % 2, i % 2 == 0, i > 4, i < 4);
+            CHECKS.is("role " + i, role, i);
         }
         CHECKS.is("a new role is not dealt", village.dealt(7), 0);
         CHECKS.is("a new role seems itself", village.seems(7, 0), 7);
@@ -74,7 +75,8 @@ public final class RolesAndSeatsTest {
             CHECKS.refuses("role of weight " + weight, ARGUMENT, RolesAndSeatsTest::empty,
                 x -> x.role('v', 'k', weight, false, false, false));
         }
-        CHECKS.refuses("a ninth role", STATE, RolesAndSeatsTest::eightRoles, x -> x.role('v', 'k', 1, false, false, false));
+        CHECKS.refuses("a ninth role", STATE, RolesAndSeatsTest::eightRoles,
+            x -> x.role('v', 'k', 1, false, false, false));
         CHECKS.refuses("a wrong ninth role", ARGUMENT, RolesAndSeatsTest::eightRoles,
             x -> x.role('v', 'k', 3, false, false, false));
         CHECKS.refuses("role in the game", UNSUPPORTED, Villages::exampleBegun,
