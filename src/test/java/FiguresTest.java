@@ -12,6 +12,7 @@ public final class FiguresTest {
         promise38();
         promise39();
         promise40();
+        soundBehindOtherHistories();
         longGame();
         CHECKS.end();
     }
@@ -68,6 +69,16 @@ public final class FiguresTest {
         Villages.vote(village, "34", "04");
         village.dusk();
         CHECKS.is("with a ghost", village.isSound(), true);
+    }
+
+    private static void soundBehindOtherHistories() {
+        NightfallVillage village = Villages.ofActs("Kp-----");
+        village.heir(3, 2);
+        village.begin();
+        Villages.tell(village, "02", "12");
+        village.dawn();
+        CHECKS.is("an heir would get a role", village.alive(1, 5), 0b1111011);
+        CHECKS.is("but none did", village.isSound(), true);
     }
 
     /** As many calls as an object is used for, all told. */

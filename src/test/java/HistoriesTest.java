@@ -12,6 +12,8 @@ public final class HistoriesTest {
         example();
         sameRoles();
         whatMayNotBeToldIsLeftOut();
+        votesLeftOut();
+        ghostVotesLeftOut();
         replacedTargetsCount();
         onceAndVotes();
         ghosts();
@@ -72,6 +74,34 @@ public final class HistoriesTest {
         CHECKS.is("the wolf is exiled", silent.winner(), 'v');
         CHECKS.is("another one in its place", silent.alive(0, 6), 126);
         CHECKS.is("the game goes on", silent.changed(0, 6), '-');
+    }
+
+    private static void votesLeftOut() {
+        NightfallVillage dead = Villages.night("Kp-----", "02", "12");
+        dead.dawn();
+        Villages.vote(dead, "32", "42", "53");
+        dead.dusk();
+        CHECKS.is("as it is", Villages.living(dead, 7), "013456");
+        CHECKS.is("votes for one who would be dead", dead.alive(1, 6), 0b1110011);
+        NightfallVillage silenced = Villages.night("Kbq----", "12", "23");
+        silenced.dawn();
+        silenced.vote(3, 4);
+        silenced.dusk();
+        CHECKS.is("exiled by one vote", Villages.living(silenced, 7), "012356");
+        CHECKS.is("a vote of one who would be silenced", silenced.alive(1, 6), 127);
+    }
+
+    private static void ghostVotesLeftOut() {
+        NightfallVillage village = Villages.night("Kp-----", "02", "12");
+        village.dawn();
+        village.vote(2, 3);
+        village.dusk();
+        village.act(0, 2);
+        village.dawn();
+        village.vote(2, 4);
+        village.dusk();
+        CHECKS.is("alive on one day, a ghost on the next", Villages.living(village, 7), "0156");
+        CHECKS.is("a ghost on both", village.alive(1, 5), 0b1110011);
     }
 
     /** A target told later may be dead in the other history: then the one told earlier counts. */

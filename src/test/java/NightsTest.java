@@ -16,6 +16,7 @@ public final class NightsTest {
         promise10();
         blocks();
         blocksInRings();
+        blocksOfOneNight();
         turning();
         drink();
         protecting();
@@ -149,6 +150,18 @@ public final class NightsTest {
         ring.begin();
         Villages.tell(ring, "01", "10", "23");
         CHECKS.is("blocks in a ring block nobody", ring.dawn(), 1);
+    }
+
+    private static void blocksOfOneNight() {
+        NightfallVillage village = Villages.night("Kbbs---", "12", "23", "30");
+        Villages.day(village);
+        CHECKS.is("a block blocked", Villages.done(village, 4), "0101");
+        Villages.tell(village, "23", "30");
+        Villages.day(village);
+        CHECKS.is("holds in the next night", Villages.done(village, 4), "0010");
+        Villages.tell(village, "30");
+        Villages.day(village);
+        CHECKS.is("and is gone in the one behind it", village.told(3, 2), 'w');
     }
 
     private static void turning() {
