@@ -44,7 +44,29 @@ final class Checks {
     void refuses(String what, Class<?> due, Build build, Use call) {
         NightfallVillage village = build.make();
         is(what, answer(() -> call.of(village)), due);
-        is(what + " changes nothing", Snapshot.of(village), Snapshot.of(build.make()));
+        changesNothing(what, build, call);
+    }
+
+    /** The call leaves a village that answers as one in which it was not called. */
+    void changesNothing(String what, Build build, Use call) {
+        for (int part = 0; part < Snapshot.PARTS; part++) {
+            NightfallVillage village = build.make();
+            answer(() -> call.of(village));
+            String got = Snapshot.part(village, part);
+            String due = Snapshot.part(build.make(), part);
+            is(what + " changes nothing", got.equals(due) ? "" : firstOther(got, due), "");
+        }
+    }
+
+    private static String firstOther(String got, String due) {
+        String[] gotLines = got.split("\n");
+        String[] dueLines = due.split("\n");
+        for (int i = 0; i < gotLines.length && i < dueLines.length; i++) {
+            if (!gotLines[i].equals(dueLines[i])) {
+                return "line " + i + ": " + gotLines[i] + " in place of " + dueLines[i];
+            }
+        }
+        return "another number of lines";
     }
 
     void end() {
