@@ -211,6 +211,12 @@ public final class TermsTest {
         NightfallVillage killed = Villages.night("Kkd----", "02", "13", "21");
         killed.dawn();
         CHECKS.is("one killed serves drink all the same", Villages.deaths(killed, 7), "--k----");
+        NightfallVillage guard = Villages.night("Kpprd--", "03", "15", "25", "32", "42");
+        guard.dawn();
+        CHECKS.is("a drunk protecting that is turned", Villages.deaths(guard, 7), "---k---");
+        NightfallVillage kill = Villages.night("Kkrd---", "05", "15", "21", "31");
+        kill.dawn();
+        CHECKS.is("a drunk killing that is turned", Villages.deaths(kill, 7), "-----k-");
         NightfallVillage idle = Villages.night("Kd---", "12");
         CHECKS.is("drink for one who does nothing", done(idle, 5), "01000");
     }
