@@ -92,9 +92,25 @@ public final class FiguresTest {
         }
         CHECKS.is("the last night", village.told(1, 164), 'w');
         CHECKS.is("the one behind it", village.told(1, 165), 'v');
+        boolean isKept = true;
+        for (int night = 0; night < 166; night++) {
+            isKept = isKept && village.told(1, night) == (night % 2 == 0 ? 'w' : 'v')
+                && village.seen(1, night) == night % 2 * 2;
+        }
+        CHECKS.is("all nights are kept", isKept, true);
         CHECKS.is("its number", village.number(), 166);
         CHECKS.is("gone through again", village.alive(0, 2), 7);
         CHECKS.is("sound", village.isSound(), true);
+        NightfallVillage all = Villages.night("sSsssss", "01", "12", "23", "34", "45", "56", "60");
+        Villages.day(all);
+        for (int night = 1; night < 200; night++) {
+            Villages.day(all);
+        }
+        StringBuilder told = new StringBuilder();
+        for (int seat = 0; seat < 7; seat++) {
+            told.append(all.told(seat, 0)).append(all.seen(seat, 0)).append(all.told(seat, 199));
+        }
+        CHECKS.is("night 0 is kept", told.toString(), "w1-v2-v3-v4-v5-v6-v0-");
         NightfallVillage short2 = Villages.ofActs("K--");
         short2.begin();
         for (int night = 0; night < 252; night++) {

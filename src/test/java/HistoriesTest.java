@@ -3,6 +3,7 @@ public final class HistoriesTest {
     private static final Class<?> INDEX = IndexOutOfBoundsException.class;
     private static final Class<?> ARGUMENT = IllegalArgumentException.class;
     private static final Class<?> STATE = IllegalStateException.class;
+    private static final Class<?> UNSUPPORTED = UnsupportedOperationException.class;
     private static final Checks CHECKS = new Checks("HistoriesTest");
 
     private HistoriesTest() {
@@ -18,6 +19,9 @@ public final class HistoriesTest {
         onceAndVotes();
         ghosts();
         marks();
+        marksInTheirOrder();
+        noDuskBehindTheEnd();
+        whatWasRefusedIsNoHistory();
         seatsKeepTheirTies();
         goesOnAsLongAsItIsNotOver();
         leavesTheGameAsItIs();
@@ -185,6 +189,89 @@ public final class HistoriesTest {
         village.dusk();
         CHECKS.is("a mark told in the game", village.alive(1, 3), 0b0110001);
         CHECKS.is("no mark of the hunter there", village.alive(1, 2), 0b1110001);
+    }
+
+    private static NightfallVillage withHunter(char actOfFirst) {
+        NightfallVillage village = new NightfallVillage();
+        village.role('w', 'k', 1, false, false, false);
+        village.role('v', actOfFirst, 1, false, false, false);
+        village.role('v', '-', 1, false, false, true);
+        village.role('v', '-', 1, false, false, false);
+        int[] roles = {0, 1, 2, 3, 3, 3, 3};
+        for (int role : roles) {
+            village.seat(role);
+        }
+        return village;
+    }
+
+    private static void marksInTheirOrder() {
+        NightfallVillage ahead = withHunter('-');
+        ahead.mark(1, 5);
+        ahead.mark(2, 4);
+        ahead.begin();
+        ahead.act(0, 2);
+        Villages.day(ahead);
+        ahead.act(0, 1);
+        ahead.dawn();
+        CHECKS.is("the hunter dies first", Villages.deaths(ahead, 7), "-kk-h--");
+        CHECKS.is("second, with the mark of its seat", ahead.alive(1, 2), 0b1011001);
+        NightfallVillage late = withHunter('p');
+        late.begin();
+        Villages.tell(late, "02", "12");
+        late.dawn();
+        late.mark(2, 5);
+        CHECKS.is("the hunter lives", late.living('*'), 7);
+        CHECKS.is("killed ahead of the mark it marks nobody", late.alive(1, 6), 0b1111011);
+    }
+
+    /** In the other history a wolf of weight 2 and its lover are exiled: the votes for them would weigh less now. */
+    private static void noDuskBehindTheEnd() {
+        NightfallVillage village = new NightfallVillage();
+        village.role('w', '-', 2, false, false, false);
+        village.role('v', '-', 2, false, false, false);
+        village.role('v', '-', 1, false, false, false);
+        int[] roles = {1, 1, 0, 2, 2, 2, 2};
+        for (int role : roles) {
+            village.seat(role);
+        }
+        village.lovers(0, 1);
+        village.begin();
+        village.dawn();
+        Villages.vote(village, "00", "10", "36", "46", "56");
+        CHECKS.is("exiled by four against three", village.dusk(), 0);
+        Villages.day(village);
+        CHECKS.is("it goes on", village.number(), 2);
+        CHECKS.is("it would be over at day 0", village.changed(0, 2), 'v');
+        CHECKS.is("and nobody exiled at day 1", village.alive(0, 2), 0b1111100);
+    }
+
+    /** A call that throws changes nothing: also not where it might be told in another history. */
+    private static void whatWasRefusedIsNoHistory() {
+        NightfallVillage act = Villages.night("K-k----");
+        CHECKS.is("no act", Checks.answer(() -> act.act(1, 5)), UNSUPPORTED);
+        act.dawn();
+        CHECKS.is("with an act it was not told either", act.alive(1, 2), 127);
+        NightfallVillage vote = Villages.night("Kq-----", "13");
+        vote.dawn();
+        CHECKS.is("silenced", Checks.answer(() -> vote.vote(3, 5)), UNSUPPORTED);
+        vote.dusk();
+        CHECKS.is("not silenced it did not vote either", vote.alive(1, 6), 127);
+        NightfallVillage mark = new NightfallVillage();
+        mark.role('w', 'k', 1, false, false, false);
+        mark.role('v', '-', 1, false, false, true);
+        mark.role('v', '-', 1, false, false, false);
+        int[] roles = {0, 2, 1, 1, 2, 2, 2};
+        for (int role : roles) {
+            mark.seat(role);
+        }
+        mark.mark(3, 2);
+        mark.begin();
+        mark.act(0, 2);
+        mark.dawn();
+        CHECKS.is("dead", Checks.answer(() -> mark.mark(2, 5)), UNSUPPORTED);
+        mark.vote(4, 3);
+        mark.dusk();
+        CHECKS.is("alive it marked nobody either", mark.alive(0, 6), 0b1110011);
     }
 
     private static void seatsKeepTheirTies() {

@@ -8,6 +8,7 @@ public final class TermsTest {
 
     public static void main(String[] args) {
         roles();
+        masks();
         seats();
         marksAndHeirs();
         blocks();
@@ -80,6 +81,38 @@ public final class TermsTest {
         itself.begin();
         CHECKS.is("one that seems itself is seemed by another", itself.worlds(1), 4);
         CHECKS.is("and may be that", itself.possible(1, 1, 0), 2);
+    }
+
+    /** What a role seems is for those who have it alone: all that it is stays. */
+    private static void masks() {
+        NightfallVillage village = of("wko2h v- vs", "0121111");
+        village.seems(0, 1);
+        village.mark(0, 4);
+        begun(village, "01", "20");
+        CHECKS.is("one that takes itself for a villager kills", village.dawn(), 1);
+        CHECKS.is("is of its side", village.living('w'), 1);
+        CHECKS.is("is seen as that", village.told(2, 0), 'w');
+        CHECKS.is("is that in all worlds", village.possible(2, 0, 0), village.worlds(2));
+        CHECKS.is("surely", village.sure(2, 0), 'w');
+        village.claim(3, 0, 'w');
+        CHECKS.is("as is claimed", village.holds(2, 0), 't');
+        CHECKS.is("for itself too it may be a wolf or none", village.sure(0, 0), '?');
+        village.vote(0, 5);
+        CHECKS.is("has its weight", village.votes(5), 2);
+        Villages.vote(village, "30", "40", "50");
+        village.dusk();
+        CHECKS.is("hunts", Villages.deaths(village, 7), "xk--h--");
+        CHECKS.is("and was all of its side", village.winner(), 'v');
+        NightfallVillage once = of("wko v- vso", "0121111");
+        once.seems(0, 1);
+        begun(once, "01");
+        Villages.day(once);
+        CHECKS.is("acts once", Checks.answer(() -> once.act(0, 3)), UNSUPPORTED);
+        NightfallVillage often = of("wk v-o", "0111111");
+        often.seems(0, 1);
+        begun(often, "01");
+        Villages.day(often);
+        CHECKS.is("or often", often.act(0, 3), false);
     }
 
     private static void seats() {
@@ -217,6 +250,13 @@ public final class TermsTest {
         NightfallVillage kill = Villages.night("Kkrd---", "05", "15", "21", "31");
         kill.dawn();
         CHECKS.is("a drunk killing that is turned", Villages.deaths(kill, 7), "-----k-");
+        NightfallVillage next = Villages.night("Kdd---", "03", "12", "20");
+        CHECKS.is("also if it was served by a lower number", next.dawn(), 0);
+        for (char act : "brdsqpk".toCharArray()) {
+            NightfallVillage acting = Villages.night("Kd" + act + "---", "12", "23");
+            acting.dawn();
+            CHECKS.is("a drunk one's act was done: " + act, acting.didAct(2), act != 'p' && act != 'k');
+        }
         NightfallVillage idle = Villages.night("Kd---", "12");
         CHECKS.is("drink for one who does nothing", done(idle, 5), "01000");
     }
@@ -238,6 +278,8 @@ public final class TermsTest {
         CHECKS.is("one of two is enough", one.dawn(), 0);
         NightfallVillage drunk = Villages.night("Kppd---", "04", "14", "24", "31");
         CHECKS.is("also if the other one is drunk", drunk.dawn(), 0);
+        NightfallVillage higher = Villages.night("Kppd---", "04", "14", "24", "32");
+        CHECKS.is("of the higher number", higher.dawn(), 0);
     }
 
     private static void seeing() {
@@ -271,6 +313,7 @@ public final class TermsTest {
         CHECKS.is("one killed silences", killed.isSilenced(2), true);
         CHECKS.is("a living one does not vote", Checks.answer(() -> killed.vote(2, 0)), UNSUPPORTED);
         CHECKS.is("but is voted for", killed.vote(3, 2), false);
+        CHECKS.is("and that counts", killed.votes(2), 1);
         CHECKS.is("and exiled", killed.dusk(), 2);
         NightfallVillage two = Villages.night("Kqq----", "13", "24");
         two.dawn();
@@ -301,6 +344,8 @@ public final class TermsTest {
         CHECKS.is("no more than once", Villages.living(one, 7), "012345");
         NightfallVillage drunk = Villages.night("KKd----", "03", "13", "20");
         CHECKS.is("one sober one is enough", drunk.dawn(), 1);
+        NightfallVillage higher = Villages.night("KKd----", "03", "13", "21");
+        CHECKS.is("also if the higher number is drunk", higher.dawn(), 1);
     }
 
     private static void once() {
@@ -551,6 +596,19 @@ public final class TermsTest {
         got.dawn();
         CHECKS.is("an heir got the role that it had", rolesOf(got, 7), "0122222");
         CHECKS.is("and no dead one is known", got.known(), 42);
+        NightfallVillage dusk = of("w- vs v-", "0122222");
+        dusk.heir(2, 1);
+        begun(dusk);
+        dusk.dawn();
+        CHECKS.is("nobody is dead", dusk.known(), 42);
+        dusk.vote(0, 3);
+        dusk.dusk();
+        CHECKS.is("a dead one is known", dusk.known(), 30);
+        dusk.dawn();
+        dusk.vote(0, 1);
+        dusk.dusk();
+        CHECKS.is("an heir at dusk", dusk.roleOf(2), 1);
+        CHECKS.is("then none is known, of earlier days neither", dusk.known(), 42);
     }
 
     private static void worldsOfSights() {
@@ -567,6 +625,15 @@ public final class TermsTest {
         first.dawn();
         CHECKS.is("told both", first.told(1, 1), 'w');
         CHECKS.is("all who have a drinker beside them fit", first.worlds(1), 720);
+        NightfallVillage mask = Villages.ofActs("Ksd----");
+        mask.seems(2, 1);
+        begun(mask, "10", "21");
+        Villages.day(mask);
+        CHECKS.is("the drinker itself, if that was told rightly", mask.possible(1, 1, 2), 600);
+        mask.act(1, 0);
+        mask.dawn();
+        CHECKS.is("told both it is not", mask.possible(1, 1, 2), 0);
+        CHECKS.is("but a seer", mask.worlds(1), 720);
         NightfallVillage none = Villages.night("Ks-----");
         none.dawn();
         CHECKS.is("nothing told", none.worlds(1), 720);
@@ -590,6 +657,12 @@ public final class TermsTest {
         CHECKS.is("of oneself", village.holds(2, 2), 't');
         CHECKS.is("liars for the seer", village.liars(1), 1);
         CHECKS.is("liars for one who knows nothing", village.liars(3), 0);
+        village.vote(1, 2);
+        village.dusk();
+        CHECKS.is("a dead one has lied all the same", village.liars(1), 1);
+        village.dawn();
+        CHECKS.is("and lies as a dead one", village.claim(2, 3, 'l'), 3);
+        CHECKS.is("as one liar", village.liars(1), 1);
     }
 
     // ---- histories ----
